@@ -8,6 +8,7 @@ public final class CrossingsTest {
         crossingsRefuse();
         least();
         leastIsNotByTheLaw();
+        ofASecondBank();
         laws();
         Check.end();
     }
@@ -112,6 +113,15 @@ public final class CrossingsTest {
         Check.due("nobody over", Check.of("r1991;s0100;d1110;l2129").least(), 60 + 50 + 31);
     }
 
+    private static void ofASecondBank() {
+        RowBack x = Check.of("r2201;s1900;s1900");
+        Check.bank(x, "r2101;s1105;s1905;s0100");
+        Check.due("not the first bank's nights", Check.crossings(x, 1), 0);
+        Check.due("not the first bank's weights", Check.crossings(x, 0, 0, 0, 0, 0, 3), NONE);
+        Check.due("least", x.least(), 60);
+        Check.due("all wait", x.allWait(), 0);
+    }
+
     private static void leastIsNotByTheLaw() {
         RowBack x = Check.of("r3091;s1500;s1500;s1300;s1300;s1300");
         Check.due("three light ones first", x.least(), 0 + 1 + 2);
@@ -145,6 +155,7 @@ public final class CrossingsTest {
         // with two coins lent by the one of 5 to the one of 1, law 2 is: 1 and 5, then 5, then 9
         x.loan(1, 3, 2);
         Check.due("laws(1) by loans", x.laws(1), 0b001);
+        Check.due("nobody waits", Check.of("r2991;s1100;s1100;s1101").laws(0), 7);
         RowBack never = Check.of("r1051;s1901;s1100");
         Check.due("one waits for 59 nights", never.laws(58), 0);
         Check.due("one waits for 59 nights", never.laws(59), 7);

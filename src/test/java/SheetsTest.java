@@ -275,11 +275,14 @@ public final class SheetsTest {
             namesNone(call);
             Check.due("fault after call " + call + ", that names none", x.fault(), 4);
         }
-        long[] want = {2, -9, 1, 1, 1, 1, 1, -100};
+        long[] want = {2, -9, 1, 1, 1, 1, 1, -100, -1, -2, -1, -2, -2, -2, -1, -2, -2, -1, LOST, LOST, -1, -1, -1, -2};
         for (int call = 0; call < want.length; call++) {
             x.sheet(2, 0, -1);
             due("call " + call + ", that comes to none", namesOne(call), want[call], 0);
         }
+        x = new RowBack();
+        x.sheet(2, 0, -1);
+        due("no bank", x.crossings(1, 1, 0, 0), -3, 0);
     }
 
     private static void namesNone(int call) {
@@ -320,7 +323,29 @@ public final class SheetsTest {
             case 4: return x.cell(1, 0, 1);
             case 5: return x.copy(1, 0, 1, 1, 1);
             case 6: return x.as(0, 0);
-            default: return x.bank(1, 1, 0, 0);
+            case 7: return x.bank(1, 1, 0, 0);
+            default: return refused(call);
+        }
+    }
+
+    private static long refused(int call) {
+        switch (call) {
+            case 8: return x.bank(4, 1, 0, 0);
+            case 9: return x.bank(1, 3, 0, 0);
+            case 10: return x.crossings(4, 1, 0, 0);
+            case 11: return x.crossings(1, 3, 0, 0);
+            case 12: Check.row(x, 3, 0, 4); x.sheet(2, 0, -1); return x.crossings(3, 0, 0, 1);
+            case 13: x.sheet(3, 0, 21); x.sheet(2, 0, -1); return x.crossings(3, 0, 0, 21);
+            case 14: return x.sheet(4, 0, -1);
+            case 15: return x.sheet(0, 3, -1);
+            case 16: return x.sheet(0, 0, 61);
+            case 17: return x.put(4, 0, 1);
+            case 18: return x.cell(4, 0, 1);
+            case 19: return x.cell(1, 0, 3);
+            case 20: return x.copy(4, 0, 1, 0, 0);
+            case 21: return x.copy(1, 0, 4, 0, 0);
+            case 22: return x.as(2, 0);
+            default: return x.as(0, 3);
         }
     }
 }
