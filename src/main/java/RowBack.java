@@ -651,11 +651,15 @@ public final class RowBack {
             int over = 0;
             for (int night = 0; night < NIGHTS; night++) {
                 int waiting = bank.comeBy[night] & ~over;
-                rowers[night] = waiting == 0 ? NONE : firstOf(waiting & ~paying);
-                seated[night] = seat(waiting & paying);
-                over |= seated[night] | freed(rowers[night]);
+                rowers[night] = NONE;
+                seated[night] = 0;
+                if (waiting != 0) {
+                    rowers[night] = firstOf(waiting & ~paying);
+                    seated[night] = seat(waiting & paying);
+                    over |= seated[night] | freed(rowers[night]);
+                    note(waiting & over, night);
+                }
                 overAfter[night] = over;
-                note(waiting & over, night);
             }
         }
 

@@ -316,7 +316,7 @@ public final class SheetsTest {
 
     private static long namesOne(int call) {
         switch (call) {
-            case 0: return Check.bank(x, "r1991;s2900;l0900");
+            case 0: Check.bank(x, "r1991;s2900;l0900"); x.sheet(2, 0, -1); return x.bank(0, 0, 0, 17);
             case 1: return x.crossings(1, 1, 0, 0);
             case 2: return x.sheet(2, 0, 3);
             case 3: return x.put(1, 0, 1);
