@@ -663,7 +663,8 @@ public final class RowBack {
             }
         }
 
-        // The row stands for all nights: those who do not wait are passed by.
+        // Nothing that one is ranked by changes from night to night: the row is made
+        // once, of all shades, and those who do not wait are passed by.
         private void lineUp(int[] coins, int law) {
             for (int s = 0; s < bank.shades; s++) {
                 int place = s;
