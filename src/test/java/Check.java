@@ -2,14 +2,27 @@
 final class Check {
     private static int wrong = 0;
     private static int asked = 0;
+    private static String sentence = "";
 
     private Check() { }
+
+    /** The sentence of the document that the answers behind it hold; it is told with a wrong one. */
+    static void says(String words) {
+        sentence = " (" + words + ")";
+    }
 
     static void due(String call, long got, long want) {
         asked++;
         if (got == want) return;
         wrong++;
-        if (wrong <= 100) System.out.println(call + " answered " + got + ", due is " + want);
+        if (wrong <= 100) System.out.println(call + " answered " + got + ", due is " + want + sentence);
+    }
+
+    static void due(String call, String got, String want) {
+        asked++;
+        if (got.equals(want)) return;
+        wrong++;
+        if (wrong <= 100) System.out.println(call + " answered " + got + ", due is " + want + sentence);
     }
 
     static void end() {
