@@ -6,7 +6,7 @@ final class Check {
 
     private Check() { }
 
-    /** The sentence of the document that the answers behind it hold; it is told with a wrong one. */
+    /** What the document says (in its words, perhaps shortened) of the answers that follow; told with a wrong one. */
     static void says(String words) {
         sentence = " (" + words + ")";
     }
