@@ -57,6 +57,9 @@ public final class BankEdgesTest {
         dueAt(1, "05", '1', '4');
         dueAt(2, "/:", '0', '9');
         dueAt(3, "/:", '1', '9');
+        // behind a first digit that is not 0, too
+        Check.due("BEARS 1 and the code ahead of the digits", Check.bank(new RowBack(), "r11/1;s0100"), -103);
+        Check.due("BEARS 1 and the code behind the digits", Check.bank(new RowBack(), "r11:1;s0100"), -103);
         dueAt(4, "05", '1', '4');
         for (int part = 5; part < SIX.length(); part += 6) {
             dueAt(part, ":<", ';');

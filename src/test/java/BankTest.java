@@ -51,19 +51,23 @@ public final class BankTest {
     }
 
     /** Each place of a text takes just the codes that are told, whatever stands ahead. */
-    private static void bankFindsFirstFault() {
-        String whole = "r1011;s0100;s0100;s0100;s0100;s0100;s0100";
+    private static void eachPlaceOf(String whole) {
         for (int place = 0; place < whole.length(); place++) {
             for (int code = 0; code < 128; code++) {
                 String text = whole.substring(0, place) + (char) code + whole.substring(place + 1);
-                String may = allowedAt(place, text);
-                boolean taken = may.indexOf(code) >= 0;
+                boolean taken = allowedAt(place, text).indexOf(code) >= 0;
                 // a text of all codes up to this one tells it, too
                 int wrong = Check.bank(new RowBack(), text.substring(0, place + 1));
                 boolean ends = place >= 10 && (place - 10) % 6 == 0;
                 Check.due("place " + place + " code " + code, wrong, !taken ? -100 - place : ends ? (place - 4) / 6 : -101 - place);
             }
         }
+    }
+
+    private static void bankFindsFirstFault() {
+        String whole = "r1011;s0100;s0100;s0100;s0100;s0100;s0100";
+        eachPlaceOf(whole);
+        eachPlaceOf("r4994;l3929;d3929;l3919;d2819;s1729;s3929");
         for (int n = 0; n < whole.length(); n++) {
             boolean ends = n >= 11 && (n - 11) % 6 == 0;
             Check.due("a text cut at " + n, Check.bank(new RowBack(), whole.substring(0, n)), ends ? (n - 5) / 6 : -100 - n);

@@ -10,6 +10,7 @@ public final class CrossingsEdgesTest {
         hasWhatItPays();
         soManySeats();
         noMoreHeavy();
+        eachSetJustHeavyEnough();
         inPlaceOfTheLaw();
         firstWrong();
         bitsOfNoShade();
@@ -107,6 +108,24 @@ public final class CrossingsEdgesTest {
         Check.due("the heaviest one", Check.crossings(Check.of("r1211;l3900"), 1), 0);
         Check.due("88 in a boat for 88", Check.crossings(Check.of("r4881;l3900;l3900;l3900;l3900"), 15), NONE);
         Check.due("88 in a boat for 87", Check.crossings(Check.of("r4871;l3900;l3900;l3900;l3900"), 15), 0);
+    }
+
+    private static void eachSetJustHeavyEnough() {
+        Check.says("they are together no more HEAVY than the boat BEARS");
+        int[] heavy = {2, 4, 6, 9, 8, 22};
+        for (int set = 1; set < 64; set++) {
+            int together = 0;
+            for (int s = 0; s < 6; s++) {
+                if ((set >> s & 1) == 1) together += heavy[s];
+            }
+            if (Integer.bitCount(set) > 4) continue;
+            Check.due("set " + set + " in a boat for " + together, Check.crossings(sixIn(together), set), NONE);
+            Check.due("set " + set + " in a boat for 1 less", Check.crossings(sixIn(together - 1), set), 0);
+        }
+    }
+
+    private static RowBack sixIn(int bears) {
+        return Check.of("r4" + bears / 10 + bears % 10 + "1;s3200;d3200;s3600;d3700;l3200;l3900");
     }
 
     private static void inPlaceOfTheLaw() {

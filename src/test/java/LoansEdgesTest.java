@@ -91,6 +91,10 @@ public final class LoansEdgesTest {
         none.loan(1, 0, 1);
         Check.due("COINS now", none.ofShade(0, 6) * 10 + none.ofShade(1, 6), 20);
         gain(none, NONE, 60);
+        // who has borrowed coins alone can lend one of them
+        RowBack borrowed = Check.of("r4994;s2100;s0100;s0100");
+        borrowed.loan(0, 1, 2);
+        gain(borrowed, 10, 3);
     }
 
     private static void gainByTheLawNow() {
